@@ -325,11 +325,7 @@ public final class WheelRide {
         if (isOutside(v, 0, MOST_SET) || isOutside(what, 0, 2)) {
             return BAD;
         }
-        switch (what) {
-            case 0: return Sums.setsOf(now, v);
-            case 1: return Sums.inAllOf(now, v);
-            default: return Sums.inAnyOf(now, v);
-        }
+        return Sums.ofSets(now, v, what);
     }
 
     public int share(int party, int n) {
@@ -1326,34 +1322,22 @@ public final class WheelRide {
     /** SETS and SHARE. */
     private static final class Sums {
 
-        static int setsOf(Wheel wheel, int v) {
-            int sets = 0;
-            for (int set = 0; set < 1 << wheel.parties; set++) {
-                if (weighs(wheel, set, v)) {
-                    sets++;
-                }
-            }
-            return sets;
-        }
-
-        static int inAllOf(Wheel wheel, int v) {
+        static int ofSets(Wheel wheel, int v, int what) {
+            int many = 0;
             int inAll = -1;
-            for (int set = 0; set < 1 << wheel.parties; set++) {
-                if (weighs(wheel, set, v)) {
-                    inAll &= set;
-                }
-            }
-            return inAll == -1 ? 0 : inAll;
-        }
-
-        static int inAnyOf(Wheel wheel, int v) {
             int inAny = 0;
             for (int set = 0; set < 1 << wheel.parties; set++) {
                 if (weighs(wheel, set, v)) {
+                    many++;
+                    inAll &= set;
                     inAny |= set;
                 }
             }
-            return inAny;
+            switch (what) {
+                case 0: return many;
+                case 1: return many == 0 ? 0 : inAll;
+                default: return inAny;
+            }
         }
 
         /** Whether all of a set are ABOARD or WAIT, and weigh v together. */

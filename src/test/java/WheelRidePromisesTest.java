@@ -130,6 +130,14 @@ public final class WheelRidePromisesTest {
         x.set(4, 0, 9);
         due("2 still one ROW", x.count(0), 3);
         due("2 lane is the new one", x.set(3, 1, 65536 + 7), 7);
+        Check.read(x, "w4,9;f3,2;");
+        x.row(5, 2, 2);
+        x.set(5, 0, -6);
+        x.set(5, 1, -6);
+        due("2 ITEMS as set", x.who(0, 1, 5, 0, 1), 8);
+        x.row(5, 2, 2);
+        due("2 ITEM 0 is 0 anew", x.who(0, 1, 5, 0, 1), 0);
+        due("2 ITEM 1 is 0 anew", x.who(0, 1, 5, 1, 1), 0);
     }
 
     // Promise 3
@@ -267,8 +275,10 @@ public final class WheelRidePromisesTest {
         due("7 limit by two figures", x.stand(2), 1);
         due("7 weight by two figures", x.party(0, 2), 9);
         due("7 rounds by two figures", x.party(0, 3), 4);
+        x.limit(9);
         x.steps(3);
         x.ballast(1, 5);
+        due("7 foretold of the one before", x.leans(2), -18);
         due("7 another one", Check.read(x, "w6,7;s2,3;f4,1;"), 2);
         due("7 STEP 0", x.count(3), 0);
         due("7 no BALLAST", x.count(4), 0);
@@ -469,6 +479,10 @@ public final class WheelRidePromisesTest {
         v.ballast(1, 5);
         due("10 a critic with RIDDEN 0 stays", v.steps(1), 0);
         due("10 it is ABOARD", v.party(0, 0), 1);
+        v.turnTo(0);
+        due("10 LEAN 10 again", v.stand(3), 10);
+        due("10 RIDDEN 0 again", v.party(0, 4), 0);
+        due("10 a critic without a round stays", v.steps(1), 0);
     }
 
     private static void stepsSticking() {
@@ -839,6 +853,16 @@ public final class WheelRidePromisesTest {
         }
         due("24 one STEP", y.bear(1), 22);
         due("24 NONE", y.bear(40), NONE);
+        WheelRide z = Check.told("w12,99;f9,4;f9,4;f9,4;f9,4;f9,4;f9,4;");
+        z.steps(6);
+        z.turnTo(11);
+        z.ballast(3, 9);
+        z.ballast(2, 9);
+        z.ballast(4, 3);
+        due("24 LEAN 984 would come", z.leans(1), 984);
+        due("24 99", z.bear(1), 99);
+        z.ballast(4, 4);
+        due("24 LEAN 1000 would", z.bear(1), NONE);
     }
 
     // Promise 25
@@ -1032,6 +1056,7 @@ public final class WheelRidePromisesTest {
         due("30 seed 0", y.drawn(1, 0, 0), BAD);
         due("30 seed 1000000", y.drawn(1, 1000000, 0), BAD);
         due("30 seed 999999", y.drawn(0, 999999, 0), 0);
+        due("30 seed 1", y.drawn(0, 1, 0), 0);
         due("30 what 2", y.drawn(1, 7, 2), BAD);
         due("30 what -1", y.drawn(1, 7, -1), BAD);
     }
