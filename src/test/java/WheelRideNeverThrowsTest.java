@@ -4,7 +4,7 @@ import java.lang.reflect.Modifier;
 import java.util.Arrays;
 import java.util.Comparator;
 
-/** Rule 7 of LANGUAGE.md: no call throws, whatever its numbers are, without a WHEEL and with one. */
+/** Rule 7 of LANGUAGE.md: no call throws, tried over a grid of edge and extreme numbers, without a WHEEL and with one. */
 public final class WheelRideNeverThrowsTest {
     private static final Check CHECK = new Check();
     private static final int[] MANY = {Integer.MIN_VALUE, -41, -2, -1, 0, 1, 2, 5, 6, 8, 12, 24, 40, 41, 60, 61, 99, 255,
