@@ -424,8 +424,7 @@ public final class WheelRide {
         if (!now.hasParty(one) || isOutside(what, 0, 1)) {
             return BAD;
         }
-        asks.traced = 0;
-        return asks.answer(one, what, 0);
+        return asks.begin(one, what);
     }
 
     public int trace(int i) {
@@ -1409,7 +1408,13 @@ public final class WheelRide {
             return kind >= ANY_PARTY && kind <= CRITIC;
         }
 
-        int answer(int p, int what, int depth) {
+        /** THE TRACE is empty ahead of an ask, not ahead of those within it. */
+        int begin(int p, int what) {
+            traced = 0;
+            return answer(p, what, 0);
+        }
+
+        private int answer(int p, int what, int depth) {
             return tell(bodyFor(now.kinds[p], what == ASK_SIZE ? SIZE_BODIES : MARK_BODIES), p, depth);
         }
 
